@@ -36,7 +36,7 @@ public final class DeedHands {
     private final Row replies = new Row();
     private final Row trial = new Row();
     private final Row found = new Row();
-    private final Run worked = new Run(book);
+    private final Run worked = new Run(book, replies);
     private final Written written = new Written(book);
 
     /** Promise 1. */
@@ -610,7 +610,10 @@ public final class DeedHands {
         }
     }
 
-    /** A run, and what is told of it when it has ended. */
+    /**
+     * A run, and what is told of it when it has ended. At each turn either a text is begun, or the
+     * frame that waits on top gets the value that is carried.
+     */
     private static final class Run {
         // Far above what a run can need: each turn begins a step or takes up one of the frames.
         private static final int TURNS = 1000000;
@@ -632,8 +635,9 @@ public final class DeedHands {
         private int goings;
         private int askings;
 
-        Run(Book book) {
+        Run(Book book, Row replies) {
             this.book = book;
+            this.replies = replies;
         }
 
         void work(int page, int argument, Row given) {
@@ -717,7 +721,6 @@ public final class DeedHands {
             }
         }
 
-        /** The frame that waits on top gets the value that is carried. */
         private void takeUp() {
             int frame = waiting.top;
             if (frame == NOTHING) {

@@ -32,11 +32,52 @@ public final class ModelTest {
         test.check.end("ModelTest");
     }
 
+    private static final String[][] HEAVY = {
+        {"@3-ppr-?p@000q2r11", "p-k@2+@2q?@1341k2p3", null, "0", "qmr**p@2q@11-xx2r+p1r+r@01x", "@06",
+            "-k@1*@2kx5*2mk+22@00", "rpp*rkp@2r1k0", "qqqqqx", "kk@11", "q?+k-mppkxp0r01+1m0k20",
+            "qk+-kqpr@310k2", "pq-p@1r12", "0", "kk0", "pq?@0x44", "rmprqr?p@112-101"},
+        {"@3@1qr@2x", "mk6-mqkkkp4r0k@00", "rk@0k@1@1q?6x1", "m@0p*qxq0@0k@07", null, null, "pqkqmkkkkx1",
+            null, "rrpp@31", "k@0?q@0m@3@24p-7x17", "?k@0p*m66kq6kxpqx", null, "m+p*p@1@3xx01", "kkkkk1",
+            "?rm@21xq2q?731", "1", "q-qqq?22qxx"},
+        {"@1@2q-qm-1-@002p11", null, null, "kk?x@2rq2r-r30", "mqm-*+@1@31012@21pr2", "rrkkkk*kk1q0",
+            "*kkp+q0r-xr@21+r02", "k0", "m0p2", "0", "kkkkkmkkk10", null, "rr-qq0rrqq1", "r+xrqp6",
+            "@0@3-+x64", "@0?kx17", "qqpppp2"},
+    };
+
+    /** Runs that lay down thousands of frames, found by search. */
+    private void heavyRuns() {
+        for (String[] written : HEAVY) {
+            x = new DeedHands();
+            m = new Model();
+            for (int page = 0; page < written.length; page++) {
+                if (written[page] == null) {
+                    continue;
+                }
+                say(written[page]);
+                if (page == 0) {
+                    due("text 0", x.text(0), m.text(0));
+                } else {
+                    due("clause", x.clause((page - 1) / 4, (page - 1) % 4), m.clause((page - 1) / 4, (page - 1) % 4));
+                }
+            }
+            for (int a = 0; a < 8; a++) {
+                for (int what = 0; what < 7; what++) {
+                    due("heavy run " + what, x.run(0, a, what), m.run(0, a, what));
+                }
+                due("heavy who", x.who(0, a, m.answers.size() - 1), m.who(0, a, m.answers.size() - 1));
+            }
+        }
+    }
+
     private void rounds() {
+        heavyRuns();
         for (int round = 0; round < ROUNDS && check.allRight(); round++) {
             x = new DeedHands();
             m = new Model();
             calls = 0;
+            if (round % 4 != 0) {
+                fill();
+            }
             for (int n = 0; n < 400 && calls < CALLS - 50 && check.allRight(); n++) {
                 oneThing();
             }
@@ -91,6 +132,34 @@ public final class ModelTest {
             case 14 -> apart();
             default -> small();
         }
+    }
+
+    /** Texts within hands that have clauses, so that runs are not short. */
+    private void fill() {
+        for (int t = 0; t < 4; t++) {
+            String signs = "@" + random.nextInt(4) + grown(pick(4, 18), 8, false);
+            say(t % 2 == 1 && random.nextBoolean() ? changed(m.texts[t - 1]) : signs);
+            due("text " + t, x.text(t), m.text(t));
+        }
+        for (int n = pick(3, 9); n > 0; n--) {
+            int d = random.nextInt(4);
+            int h = random.nextInt(4);
+            say(grown(pick(2, 14), 9, d < 3));
+            due("clause", x.clause(h, d), m.clause(h, d));
+        }
+    }
+
+    /** The same text but for one number, so that few replies tell the two apart. */
+    private String changed(String signs) {
+        StringBuilder one = new StringBuilder(signs);
+        for (int n = 0; n < 50; n++) {
+            int at = random.nextInt(one.length());
+            if ("0123".indexOf(one.charAt(at)) >= 0) {
+                one.setCharAt(at, (char) ('0' + random.nextInt(4)));
+                return one.toString();
+            }
+        }
+        return signs;
     }
 
     private void say(String signs) {
@@ -202,7 +271,7 @@ public final class ModelTest {
     private void apart() {
         int t = near(3);
         int a = near(7);
-        int o = random.nextBoolean() ? t : near(3);
+        int o = random.nextBoolean() ? t ^ random.nextInt(2) : near(3);
         int with = near(7);
         int length = near(4);
         int c = near(2);
