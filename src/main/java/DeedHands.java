@@ -166,7 +166,7 @@ public final class DeedHands {
         if (!isText(text)) {
             return UNKNOWN;
         }
-        if (!isNumber(argument) || !areRows(length, c) || end < 0 || end > SPENT || i < -1) {
+        if (!isNumber(argument) || !areRows(length, c) || end < 0 || end > SPENT) {
             return OUTSIDE;
         }
         int ends = goThrough(text, argument, length, c, end);
@@ -178,7 +178,7 @@ public final class DeedHands {
         if (!isText(text) || !isText(other)) {
             return UNKNOWN;
         }
-        if (!isNumber(argument) || !isNumber(with) || !areRows(length, c) || i < -1) {
+        if (!isNumber(argument) || !isNumber(with) || !areRows(length, c)) {
             return OUTSIDE;
         }
         for (int n = 0; n <= length; n++) {
@@ -460,6 +460,7 @@ public final class DeedHands {
             }
         }
 
+        /** The document tells no range for i, so an i without a reply is NONE, never OUTSIDE. */
         int tell(int i) {
             if (i == -1) {
                 return count;

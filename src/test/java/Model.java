@@ -415,7 +415,7 @@ final class Model {
         if (!in(text, 0, 3)) {
             return UNKNOWN;
         }
-        if (!in(argument, 0, 7) || !in(length, 0, 4) || !in(c, 0, 2) || !in(sought, 0, 9) || i < -1) {
+        if (!in(argument, 0, 7) || !in(length, 0, 4) || !in(c, 0, 2) || !in(sought, 0, 9)) {
             return OUTSIDE;
         }
         List<Integer> best = null;
@@ -429,14 +429,14 @@ final class Model {
     }
 
     private static int tell(List<Integer> r, int i) {
-        return i == -1 ? r.size() : i < r.size() ? r.get(i) : NONE;
+        return i == -1 ? r.size() : in(i, 0, r.size() - 1) ? r.get(i) : NONE;
     }
 
     int apart(int text, int argument, int other, int with, int length, int c, int i) {
         if (!in(text, 0, 3) || !in(other, 0, 3)) {
             return UNKNOWN;
         }
-        if (!in(argument, 0, 7) || !in(with, 0, 7) || !in(length, 0, 4) || !in(c, 0, 2) || i < -1) {
+        if (!in(argument, 0, 7) || !in(with, 0, 7) || !in(length, 0, 4) || !in(c, 0, 2)) {
             return OUTSIDE;
         }
         for (int n = 0; n <= length; n++) {

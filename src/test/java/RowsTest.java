@@ -1,6 +1,7 @@
 /** Promises 15 to 17: all rows of replies, the row to an end, apart. */
 public final class RowsTest {
     private static final int NONE = DeedHands.NONE;
+    private static final int[] NO_REPLY = {-2, -3, -1073741823, Integer.MIN_VALUE, 8, 199, Integer.MAX_VALUE};
     private static final Check check = new Check();
 
     public static void main(String[] args) {
@@ -50,6 +51,9 @@ public final class RowsTest {
         }
         for (int i = want.length; i < 5; i++) {
             check.due("no reply " + i + " to " + end, x.row(0, 0, length, c, end, i), NONE);
+        }
+        for (int i : NO_REPLY) {
+            check.due("never a reply " + i + " to " + end, x.row(0, 0, length, c, end, i), NONE);
         }
     }
 
@@ -114,6 +118,9 @@ public final class RowsTest {
         for (int i = want.length; i < 5; i++) {
             check.due(what + ", no reply " + i, x.apart(1, 0, 2, 0, length, c, i), NONE);
         }
+        for (int i : NO_REPLY) {
+            check.due(what + ", never a reply " + i, x.apart(1, 0, 2, 0, length, c, i), NONE);
+        }
     }
 
     private static void alike(String one, String other, int length, int c) {
@@ -122,6 +129,9 @@ public final class RowsTest {
         check.text(x, 2, other);
         for (int i = -1; i < 5; i++) {
             check.due(one + " and " + other + " alike, " + i, x.apart(1, 0, 2, 0, length, c, i), NONE);
+        }
+        for (int i : NO_REPLY) {
+            check.due(one + " and " + other + " alike, never " + i, x.apart(1, 0, 2, 0, length, c, i), NONE);
         }
     }
 
@@ -206,10 +216,12 @@ public final class RowsTest {
         check.due("all(0, 0, -1, 0)", x.all(0, 0, -1, 0), DeedHands.OUTSIDE);
         check.due("all(0, 0, 0, -1)", x.all(0, 0, 0, -1), DeedHands.OUTSIDE);
         check.due("row end -1", x.row(0, 0, 0, 0, -1, -1), DeedHands.OUTSIDE);
-        check.due("row i -2", x.row(0, 0, 0, 0, 0, -2), DeedHands.OUTSIDE);
-        check.due("outside comes ahead of no", x.row(0, 0, 0, 0, 1, -2), DeedHands.OUTSIDE);
+        check.due("row end 10", x.row(0, 0, 0, 0, 10, -1), DeedHands.OUTSIDE);
+        check.due("outside comes ahead of no", x.row(0, 8, 0, 0, 1, -1), DeedHands.OUTSIDE);
+        check.due("outside comes ahead of none", x.row(0, 0, 5, 0, 0, -2), DeedHands.OUTSIDE);
         check.due("no comes ahead of none", x.row(0, 0, 0, 0, 1, 3), DeedHands.NO);
-        check.due("apart i -2", x.apart(0, 0, 0, 0, 0, 0, -2), DeedHands.OUTSIDE);
+        check.due("no comes ahead of none below -1, too", x.row(0, 0, 0, 0, 1, -2), DeedHands.NO);
+        check.due("apart outside comes ahead of none", x.apart(0, 0, 0, 0, 5, 0, -2), DeedHands.OUTSIDE);
         check.due("apart other 4", x.apart(0, 0, 4, 0, 0, 0, 0), DeedHands.UNKNOWN);
         check.due("apart with 8", x.apart(0, 0, 0, 8, 0, 0, 0), DeedHands.OUTSIDE);
     }
