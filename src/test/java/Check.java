@@ -41,6 +41,28 @@ final class Check {
         due("clause(" + hand + ", " + deed + ") " + signs, x.clause(hand, deed), signs.length());
     }
 
+    /** A new object with pages: "2 x" is text 2, "03 x" is hand 0's clause for 3. */
+    DeedHands written(String... pages) {
+        DeedHands x = new DeedHands();
+        for (String page : pages) {
+            int gap = page.indexOf(' ');
+            String signs = page.substring(gap + 1);
+            if (gap == 1) {
+                text(x, page.charAt(0) - '0', signs);
+            } else {
+                clause(x, page.charAt(0) - '0', page.charAt(1) - '0', signs);
+            }
+        }
+        return x;
+    }
+
+    void replies(DeedHands x, int... values) {
+        for (int v : values) {
+            int before = x.told(1);
+            due("reply(" + v + ")", x.reply(v), before + 1);
+        }
+    }
+
     /** Says signs, looks at both faults and wipes. */
     void faults(DeedHands x, String signs, int without, int with) {
         say(x, signs);
