@@ -46,6 +46,8 @@ public final class DeedHands {
         }
     }
 
+    // ---- 1 texts
+
     /** Promise 2. */
     public int say(int sign) {
         if (sign < FIRST_SIGN || sign > LAST_SIGN) {
@@ -98,6 +100,8 @@ public final class DeedHands {
         return hand >= 0 && hand < HANDS ? book.clauses(hand) : UNKNOWN;
     }
 
+    // ---- 2 runs
+
     /** Promise 9. */
     public int reply(int v) {
         if (!isNumber(v)) {
@@ -137,6 +141,8 @@ public final class DeedHands {
         return worked.answerer(i);
     }
 
+    // ---- 3 without a run
+
     /** Promise 13. */
     public int may(int hand, int which) {
         if (hand == NOTHING) {
@@ -149,6 +155,8 @@ public final class DeedHands {
     public int often(int hand, int deed) {
         return isClause(hand, deed) ? written.goings(pageOf(hand, deed)) : UNKNOWN;
     }
+
+    // ---- 4 all replies
 
     /** Promise 15. */
     public int all(int text, int argument, int length, int c) {
@@ -309,7 +317,7 @@ public final class DeedHands {
             int depth = 0;
             due[0] = 1;
             for (int at = 0; at < size; at++) {
-                if (depth < 0 || !canStand(sign(at), depth, goes)) {
+                if (depth < 0 || depth > WITHIN || !canStand(sign(at), depth, goes)) {
                     return at;
                 }
                 due[depth]--;
@@ -470,7 +478,7 @@ public final class DeedHands {
 
         /** Becomes the next row that differs among the first used replies; false, if there is none. */
         boolean next(int used, int c) {
-            for (int at = Math.min(used, count) - 1; at >= 0; at--) {
+            for (int at = Math.min(Math.min(used, count), REPLIES) - 1; at >= 0; at--) {
                 if (value(at) < c) {
                     values[at]++;
                     return true;
