@@ -31,6 +31,9 @@ public final class RunEdgesTest {
         keptOutToThatHand();
         theHandWaitsAgain();
         justAsItWas();
+        whatKComesTo();
+        whatAClauseComesTo();
+        kOfItsOwnClause();
         neverOnceOrOften();
         behind40GoingsOn();
         goingsOnAndStepsTogether();
@@ -257,6 +260,49 @@ public final class RunEdgesTest {
         // Gone on with once more after what was laid down has changed.
         x = check.written("0 @0-p1p2", "00 -kxk0");
         check.run(x, 0, 0, 0, 23, 0, NONE, NONE, 6, 3);
+    }
+
+    /** "what comes of it all, out to the HAND, is what k comes to" */
+    private static void whatKComesTo() {
+        // BACK is worked ahead of that; what waits beyond the hand is not part of it.
+        DeedHands x = check.written("0 @0+2p1", "1 +7@0+2p1", "00 *2k3", "03 +x1");
+        check.run(x, 0, 0, 4, 12, 0, NONE, NONE, 1, 1);
+        check.run(x, 1, 0, 3, 14, 0, NONE, NONE, 1, 1);
+        // What goes on asks the same hand again, which never goes on: k comes to what that clause comes to.
+        x = check.written("0 @0+p1q2", "00 +1k0", "01 5");
+        check.run(x, 0, 0, 6, 11, 0, NONE, NONE, 1, 2);
+        check.who(x, 0, 0, 10, 120);
+        // Behind k the clause has its own argument.
+        x = check.written("0 @0p5", "00 +kxx", "03 +x1");
+        check.run(x, 0, 2, 3, 10, 0, NONE, NONE, 1, 1);
+        // An asking of what goes on that a hand farther out answers takes the waiting clause along.
+        x = check.written("0 @1@0+p1q2", "00 *3kx", "11 +k1k2");
+        check.run(x, 0, 0, 7, 16, 0, NONE, NONE, 3, 2);
+        check.who(x, 0, 0, 10, 121);
+    }
+
+    /** "what it comes to is what that HAND's text comes to" */
+    private static void whatAClauseComesTo() {
+        DeedHands x = check.written("0 -6@0*3p1", "1 @1@0p1", "00 4", "03 7", "13 +x1");
+        check.run(x, 0, 0, 2, 8, 0, NONE, NONE, 0, 1);
+        check.run(x, 1, 0, 5, 8, 0, NONE, NONE, 0, 1);
+        x = check.written("0 ?@0p123", "1 p@0q4", "00 x", "01 -xx");
+        check.run(x, 0, 0, 3, 6, 0, NONE, NONE, 0, 1);
+        check.run(x, 1, 0, 8, 7, 0, 0, 0, 0, 2);
+    }
+
+    /** "Its k GOES ON": a clause's k is its own, whatever other clauses stand within it or around it. */
+    private static void kOfItsOwnClause() {
+        // Within hand 1 the clause of p asks q; that clause goes on to p's, which goes on to the text.
+        DeedHands x = check.written("0 @0+1p2", "00 @1kqx", "11 *3k+x1");
+        check.run(x, 0, 0, 4, 15, 0, NONE, NONE, 2, 2);
+        check.who(x, 0, 0, 20, 121);
+        // The same hand is asked from its own clause by another one of itself around.
+        x = check.written("0 @0@0+1p2", "00 kp+x1");
+        check.run(x, 0, 0, 8, 16, 0, 0, 4, 0, 3);
+        check.who(x, 0, 0, 20, 30, 49);
+        check.replies(x, 5);
+        check.run(x, 0, 0, 6, 16, 1, NONE, NONE, 2, 3);
     }
 
     /** "A CLAUSE may GO ON never, once or often" */

@@ -21,6 +21,7 @@ public final class TextEdgesTest {
         allTextsAreNought();
         noClausesNoReplies();
         thePadIsEmpty();
+        eachObjectIsItsOwn();
         codes33To126();
         fortySignsAtMost();
         wipeTellsHowMany();
@@ -91,6 +92,37 @@ public final class TextEdgesTest {
         check.due("clause", x.clause(0, 0), NO);
         check.due("wipe", x.wipe(), 0);
         check.due("the first sign", x.say('0'), 1);
+    }
+
+    /** The same sentences, when other objects have texts, clauses, replies and signs: calls in turns. */
+    private static void eachObjectIsItsOwn() {
+        DeedHands x = check.written("0 @0+p1q2", "00 k+x1", "03 +x1");
+        check.replies(x, 5, 6);
+        check.say(x, "+x");
+        DeedHands y = new DeedHands();
+        check.due("signs of the other", y.told(0), 0);
+        check.due("replies of the other", y.told(1), 0);
+        check.due("text of the other", y.told(10), 1);
+        check.due("hands of the other", y.has(0), 0);
+        check.run(y, 0, 0, 0, 1, 0, NONE, NONE, 0, 0);
+        check.text(y, 0, "@0p3");
+        check.clause(y, 0, 0, "6");
+        check.replies(y, 1);
+        for (int turn = 0; turn < 3; turn++) {
+            check.run(x, 0, 0, 0, 13, 1, NONE, NONE, 1, 2);
+            check.run(y, 0, 0, 6, 4, 0, NONE, NONE, 0, 1);
+            check.who(x, 0, 0, 10, 129);
+            check.who(y, 0, 0, 30);
+            check.due("what the one may ask", x.may(-1, 0), 2);
+            check.due("and the other", y.may(-1, 0), 0);
+            check.due("how often the one", x.often(0, 0), 1);
+            check.due("and the other", y.often(0, 0), 0);
+        }
+        check.due("mute of the other", y.mute(), 1);
+        check.due("drop of the other", y.drop(0, 0), 1);
+        check.due("signs of the one", x.wipe(), 2);
+        check.due("its clauses", x.has(0), 9);
+        check.due("its replies", x.mute(), 2);
     }
 
     /** "SIGNS (codes 33 to 126)": "OUTSIDE" */
